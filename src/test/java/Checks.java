@@ -1,0 +1,32 @@
+/** Compares answers with those that are due, and ends a test with exit code 1 if one was wrong. */
+final class Checks {
+    private static final int MOST_PRINTED = 40;
+
+    private int wrong;
+    private int made;
+
+    void due(String call, long got, long want) {
+        made++;
+        if (got != want) {
+            wrong++;
+            if (wrong <= MOST_PRINTED) {
+                System.out.println(call + " answered " + got + ", due is " + want);
+            }
+        }
+    }
+
+    void due(String call, boolean got, boolean want) {
+        due(call, got ? 1 : 0, want ? 1 : 0);
+    }
+
+    boolean allRight() {
+        return wrong == 0;
+    }
+
+    void end() {
+        System.out.println(made + " answers looked at, " + wrong + " wrong");
+        if (wrong != 0) {
+            System.exit(1);
+        }
+    }
+}
