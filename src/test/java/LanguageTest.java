@@ -1,0 +1,104 @@
+import java.io.IOException;
+import java.lang.reflect.Constructor;
+import java.lang.reflect.Field;
+import java.lang.reflect.Method;
+import java.lang.reflect.Modifier;
+import java.nio.file.Files;
+import java.nio.file.Path;
+import java.util.Arrays;
+import java.util.TreeSet;
+import java.util.regex.Matcher;
+import java.util.regex.Pattern;
+
+/** The rules of LANGUAGE.md that a look at the class and its text can tell. */
+public final class LanguageTest {
+    private static final String[] FACE = {
+        "int write(int, long)", "int read(int)", "int again(int)", "int deliver(int, int, int)",
+        "int hear(int, int, int)", "boolean crash(int)", "boolean stop(int)", "int phase(int)",
+        "int heard(int)", "int tag(int)", "long result(int)", "int finished(int)", "int held(int)",
+        "int heldTag(int, int)", "int fragment(int, int, int)", "int seal(int)",
+        "int requests(int, int)", "int replies(int, int)", "int quorum()",
+    };
+    private static final String FORBIDDEN = "\\b(import|package|throw|throws|try|catch|synchronized"
+        + "|assert|native|protected|volatile|Random|Thread|System\\.(?!arraycopy))\\b|->|::";
+
+    private final Checks checks = new Checks();
+
+    public static void main(String[] args) throws IOException {
+        LanguageTest test = new LanguageTest();
+        test.face();
+        test.classesInside();
+        if (args.length > 0) {
+            test.text(Files.readString(Path.of(args[0])));
+        }
+        test.checks.end();
+    }
+
+    private static String signature(Method method) {
+        String types = Arrays.toString(method.getParameterTypes());
+        return method.getReturnType() + " " + method.getName()
+            + "(" + types.substring(1, types.length() - 1) + ")";
+    }
+
+    private void face() {
+        Class<?> face = SealedFragmentRegister.class;
+        checks.due("public", Modifier.isPublic(face.getModifiers()), true);
+        checks.due("final", Modifier.isFinal(face.getModifiers()), true);
+        TreeSet<String> due = new TreeSet<>(Arrays.asList(FACE));
+        TreeSet<String> names = new TreeSet<>();
+        for (Method method : face.getDeclaredMethods()) {
+            if (Modifier.isPublic(method.getModifiers())) {
+                checks.due("due: " + signature(method), due.remove(signature(method)), true);
+                names.add(method.getName());
+            }
+        }
+        checks.due("missing: " + due, due.size(), 0);
+        for (Method method : face.getDeclaredMethods()) {
+            boolean open = Modifier.isPublic(method.getModifiers());
+            checks.due("private: " + method, open || Modifier.isPrivate(method.getModifiers()), true);
+            checks.due("no second " + method, !open && names.contains(method.getName()), false);
+        }
+        Constructor<?>[] constructors = face.getDeclaredConstructors();
+        checks.due("constructors", constructors.length, 1);
+        checks.due("constructor", Arrays.equals(constructors[0].getParameterTypes(),
+            new Class<?>[] {int.class, int.class, int.class}), true);
+        for (Field field : face.getDeclaredFields()) {
+            checks.due("private: " + field, Modifier.isPrivate(field.getModifiers()), true);
+        }
+        fields(face);
+    }
+
+    private void fields(Class<?> type) {
+        int own = 0;
+        for (Field field : type.getDeclaredFields()) {
+            if (Modifier.isStatic(field.getModifiers())) {
+                checks.due("final: " + field, Modifier.isFinal(field.getModifiers()), true);
+            } else {
+                own++;
+            }
+        }
+        checks.due("some twenty fields in " + type, own <= 20, true);
+    }
+
+    private void classesInside() {
+        Class<?>[] inside = SealedFragmentRegister.class.getDeclaredClasses();
+        checks.due("some twelve classes", inside.length < 12, true);
+        for (Class<?> type : inside) {
+            checks.due("static: " + type, Modifier.isStatic(type.getModifiers()), true);
+            checks.due("not public: " + type, Modifier.isPublic(type.getModifiers()), false);
+            fields(type);
+            for (Method method : type.getDeclaredMethods()) {
+                checks.due("seven parameters: " + method, method.getParameterCount() <= 7, true);
+            }
+        }
+    }
+
+    private void text(String program) {
+        String code = program.replaceAll("(?s)/\\*.*?\\*/", "").replaceAll("//[^\n]*", "");
+        Matcher forbidden = Pattern.compile(FORBIDDEN).matcher(code);
+        while (forbidden.find()) {
+            checks.due("forbidden: " + forbidden.group(), true, false);
+        }
+        checks.due("characters 0 to 255", program.chars().allMatch(letter -> letter < 256), true);
+    }
+}
