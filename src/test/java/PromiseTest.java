@@ -162,6 +162,16 @@ public final class PromiseTest {
         due("2: a crashed server crowds nobody", x.write(1, 9), 0);
         x.stop(1);
         due("2: crashed comes first", x.write(1, 9), -2);
+        SealedFragmentRegister y = three();
+        Steps.write(y, 1, 7, 0, 1);
+        Steps.read(y, 1, 0, 1);
+        for (int i = 0; i < 5; i++) {
+            y.deliver(1, 2, 0);
+        }
+        due("2: crowded by replies alone", y.write(1, 8), -4);
+        y.crash(2);
+        due("2: five replies of a crashed server wait", y.replies(1, 2), 5);
+        due("2: and crowd nobody", y.write(1, 8), 0);
     }
 
     private void promise3() {
@@ -302,6 +312,7 @@ public final class PromiseTest {
         Steps.rounds(x, 3, 0, 1);
         due("5: look", x.deliver(3, 2, 0), 4);
         due("5: fetch", x.deliver(3, 2, 0), 5);
+        promise5Order();
         SealedFragmentRegister y = three();
         Steps.write(y, 0, 5, 0, 1);
         Steps.writeUpToStore(y, 1, 6, 0, 1);
@@ -314,6 +325,16 @@ public final class PromiseTest {
         Steps.rounds(y, 1, 0, 1);
         due("5: the higher seal", y.deliver(1, 2, 1), 3);
         due("5: seal", y.seal(2), 17);
+    }
+
+    private void promise5Order() {
+        SealedFragmentRegister x = three();
+        Steps.write(x, 0, 5, 0, 1);
+        Steps.read(x, 0, 0, 1);
+        due("5: from the middle of five", x.deliver(0, 2, 1), 2);
+        for (int phase : new int[] {1, 3, 4, 5}) {
+            due("5: the others in the order of sending", x.deliver(0, 2, 0), phase);
+        }
     }
 
     private void promise6() {
