@@ -2,15 +2,31 @@
 final class Checks {
     private static final int MOST_PRINTED = 40;
 
+    private String sentence = "";
+    private int madeBefore = -1;
     private int wrong;
     private int made;
+
+    /** The words of the document that the answers from here on are looked at for. */
+    void sentence(String words) {
+        endSentence();
+        sentence = words;
+        madeBefore = made;
+    }
+
+    private void endSentence() {
+        if (made == madeBefore) {
+            due("no answer is looked at", made, made + 1);
+        }
+    }
 
     void due(String call, long got, long want) {
         made++;
         if (got != want) {
             wrong++;
             if (wrong <= MOST_PRINTED) {
-                System.out.println(call + " answered " + got + ", due is " + want);
+                System.out.println((sentence.isEmpty() ? "" : "[" + sentence + "] ")
+                    + call + " answered " + got + ", due is " + want);
             }
         }
     }
@@ -24,6 +40,7 @@ final class Checks {
     }
 
     void end() {
+        endSentence();
         System.out.println(made + " answers looked at, " + wrong + " wrong");
         if (wrong != 0) {
             System.exit(1);

@@ -42,11 +42,11 @@ public final class PromiseTest {
         checks.due(call, got, want);
     }
 
-    private static SealedFragmentRegister three() {
-        return new SealedFragmentRegister(3, 1, 0);
+    private static Run three() {
+        return new Run(3, 1, 0);
     }
 
-    private static int serversOf(SealedFragmentRegister x) {
+    private static int serversOf(Run x) {
         int n = 0;
         while (n < 20 && x.seal(n) >= 0) {
             n++;
@@ -54,7 +54,7 @@ public final class PromiseTest {
         return n;
     }
 
-    private static int fragmentLengthOf(SealedFragmentRegister x) {
+    private static int fragmentLengthOf(Run x) {
         int length = 0;
         while (length < 20 && x.fragment(0, 0, length) >= 0) {
             length++;
@@ -63,7 +63,7 @@ public final class PromiseTest {
     }
 
     private static int mostHeld(int d) {
-        SealedFragmentRegister x = new SealedFragmentRegister(3, 1, d);
+        Run x = new Run(3, 1, d);
         for (int i = 0; i < 6; i++) {
             Steps.write(x, i % 5, i + 1, 0, 1);
         }
@@ -73,22 +73,22 @@ public final class PromiseTest {
     private void promise1() {
         int[][] servers = {{LOW, 3}, {-5, 3}, {2, 3}, {3, 3}, {4, 4}, {6, 6}, {7, 7}, {8, 7}, {HIGH, 7}};
         for (int[] row : servers) {
-            due("1: N of " + row[0], serversOf(new SealedFragmentRegister(row[0], 1, 0)), row[1]);
+            due("1: N of " + row[0], serversOf(new Run(row[0], 1, 0)), row[1]);
         }
         int[][] lengths = {
             {LOW, 8}, {0, 8}, {1, 8}, {2, 4}, {3, 3}, {4, 2}, {5, 2}, {6, 2}, {7, 2}, {8, 2}, {HIGH, 2}
         };
         for (int[] row : lengths) {
             due("1: L with K of " + row[0],
-                fragmentLengthOf(new SealedFragmentRegister(7, row[0], 0)), row[1]);
+                fragmentLengthOf(new Run(7, row[0], 0)), row[1]);
         }
-        due("1: K no more than N", fragmentLengthOf(new SealedFragmentRegister(3, 7, 0)), 3);
-        due("1: K of the N that is taken", new SealedFragmentRegister(-1, 9, 0).quorum(), 3);
+        due("1: K no more than N", fragmentLengthOf(new Run(3, 7, 0)), 3);
+        due("1: K of the N that is taken", new Run(-1, 9, 0).quorum(), 3);
         int[][] held = {{LOW, 1}, {-1, 1}, {0, 1}, {1, 2}, {2, 3}, {3, 4}, {4, 4}, {HIGH, 4}};
         for (int[] row : held) {
             due("1: tags held with D of " + row[0], mostHeld(row[0]), row[1]);
         }
-        SealedFragmentRegister x = new SealedFragmentRegister(7, 2, 3);
+        Run x = new Run(7, 2, 3);
         for (int c = 0; c < 5; c++) {
             due("1: phase", x.phase(c), 0);
             due("1: heard", x.heard(c), 0);
@@ -111,7 +111,7 @@ public final class PromiseTest {
     }
 
     private void promise2() {
-        SealedFragmentRegister x = three();
+        Run x = three();
         for (int c : NO_CLIENTS) {
             due("2: write of no client", x.write(c, 1), -1);
         }
@@ -131,7 +131,7 @@ public final class PromiseTest {
     }
 
     private void promise2Block() {
-        SealedFragmentRegister x = new SealedFragmentRegister(3, 3, 1);
+        Run x = new Run(3, 3, 1);
         x.write(0, 0x0807060504030201L);
         due("2: refused", x.write(0, -1), -3);
         Steps.rounds(x, 0, 0, 1, 2);
@@ -142,7 +142,7 @@ public final class PromiseTest {
     }
 
     private void promise2Crowded() {
-        SealedFragmentRegister x = three();
+        Run x = three();
         Steps.write(x, 1, 7, 0, 1);
         due("2: three letters lie", x.requests(1, 2), 3);
         due("2: not crowded by three", Steps.read(x, 1, 0, 1), 3);
@@ -162,7 +162,7 @@ public final class PromiseTest {
         due("2: a crashed server crowds nobody", x.write(1, 9), 0);
         x.stop(1);
         due("2: crashed comes first", x.write(1, 9), -2);
-        SealedFragmentRegister y = three();
+        Run y = three();
         Steps.write(y, 1, 7, 0, 1);
         Steps.read(y, 1, 0, 1);
         for (int i = 0; i < 5; i++) {
@@ -175,7 +175,7 @@ public final class PromiseTest {
     }
 
     private void promise3() {
-        SealedFragmentRegister x = three();
+        Run x = three();
         for (int c : NO_CLIENTS) {
             due("3: read of no client", x.read(c), -1);
         }
@@ -190,7 +190,7 @@ public final class PromiseTest {
         }
         x.stop(4);
         due("3: crashed", x.read(4), -2);
-        SealedFragmentRegister y = three();
+        Run y = three();
         Steps.write(y, 0, 5, 0, 1);
         Steps.read(y, 0, 0, 1);
         due("3: crowded", y.read(0), -4);
@@ -200,7 +200,7 @@ public final class PromiseTest {
         y.hear(0, 2, 0);
         due("3: not crowded by four", y.read(0), 0);
         due("3: under way comes before crowded", y.read(0), -3);
-        SealedFragmentRegister z = three();
+        Run z = three();
         z.crash(1);
         z.read(0);
         due("3: no request to a crashed server", z.requests(0, 1), 0);
@@ -208,8 +208,8 @@ public final class PromiseTest {
     }
 
     /** Servers 0 and 1 have dropped the tag 0 for a tag that is nowhere sealed. */
-    private static SealedFragmentRegister withTagZeroDropped() {
-        SealedFragmentRegister x = three();
+    private static Run withTagZeroDropped() {
+        Run x = three();
         Steps.writeUpToStore(x, 4, 99, 0, 1);
         x.deliver(4, 0, 0);
         x.deliver(4, 1, 0);
@@ -217,7 +217,7 @@ public final class PromiseTest {
     }
 
     private void promise4() {
-        SealedFragmentRegister x = withTagZeroDropped();
+        Run x = withTagZeroDropped();
         for (int c : NO_CLIENTS) {
             due("4: again of no client", x.again(c), -1);
         }
@@ -250,7 +250,7 @@ public final class PromiseTest {
     }
 
     private void promise4Crowded() {
-        SealedFragmentRegister x = withTagZeroDropped();
+        Run x = withTagZeroDropped();
         x.read(0);
         Steps.rounds(x, 0, 0, 1, 0, 1);
         due("4: two lie", x.requests(0, 2), 2);
@@ -272,7 +272,7 @@ public final class PromiseTest {
     }
 
     private void promise5() {
-        SealedFragmentRegister x = three();
+        Run x = three();
         x.write(0, 5);
         for (int c : NO_CLIENTS) {
             due("5: deliver of no client", x.deliver(c, 0, 0), -1);
@@ -298,7 +298,7 @@ public final class PromiseTest {
     }
 
     private void promise5Phases() {
-        SealedFragmentRegister x = three();
+        Run x = three();
         Steps.write(x, 0, 5, 0, 1);
         due("5: place 1", x.deliver(0, 2, 1), 2);
         due("5: the tag 0 is dropped", x.heldTag(2, 0), 8);
@@ -313,7 +313,7 @@ public final class PromiseTest {
         due("5: look", x.deliver(3, 2, 0), 4);
         due("5: fetch", x.deliver(3, 2, 0), 5);
         promise5Order();
-        SealedFragmentRegister y = three();
+        Run y = three();
         Steps.write(y, 0, 5, 0, 1);
         Steps.writeUpToStore(y, 1, 6, 0, 1);
         due("5: a lower tag's store", y.deliver(0, 2, 1), 2);
@@ -328,7 +328,7 @@ public final class PromiseTest {
     }
 
     private void promise5Order() {
-        SealedFragmentRegister x = three();
+        Run x = three();
         Steps.write(x, 0, 5, 0, 1);
         Steps.read(x, 0, 0, 1);
         due("5: from the middle of five", x.deliver(0, 2, 1), 2);
@@ -338,7 +338,7 @@ public final class PromiseTest {
     }
 
     private void promise6() {
-        SealedFragmentRegister x = three();
+        Run x = three();
         x.write(0, 5);
         due("6: no reply yet", x.hear(0, 0, 0), -2);
         x.deliver(0, 0, 0);
@@ -378,7 +378,7 @@ public final class PromiseTest {
     }
 
     private void promise6CrashedServer() {
-        SealedFragmentRegister x = three();
+        Run x = three();
         x.read(0);
         x.deliver(0, 2, 0);
         x.crash(2);
@@ -389,14 +389,14 @@ public final class PromiseTest {
     }
 
     private void promise6Places() {
-        SealedFragmentRegister x = three();
+        Run x = three();
         x.write(0, 5);
         Steps.rounds(x, 0, 0, 1);
         x.deliver(0, 2, 0);
         x.deliver(0, 2, 0);
         due("6: place 0 is the older", x.hear(0, 2, 0), 0);
         due("6: then the younger", x.hear(0, 2, 0), 1);
-        SealedFragmentRegister y = three();
+        Run y = three();
         y.write(0, 5);
         Steps.rounds(y, 0, 0, 1);
         y.deliver(0, 2, 0);
@@ -406,7 +406,7 @@ public final class PromiseTest {
     }
 
     private void promise6Fetch() {
-        SealedFragmentRegister x = new SealedFragmentRegister(5, 3, 0);
+        Run x = new Run(5, 3, 0);
         Steps.writeUpToStore(x, 1, 77, 0, 1, 2, 3);
         x.deliver(1, 0, 0);
         x.deliver(1, 1, 0);
@@ -419,7 +419,7 @@ public final class PromiseTest {
         due("6: the look of the last one", x.deliver(0, 4, 0), 4);
         due("6: does not count", x.hear(0, 4, 0), 0);
         due("6: the third fragment finishes", Steps.round(x, 0, 4), 3);
-        SealedFragmentRegister y = new SealedFragmentRegister(5, 3, 0);
+        Run y = new Run(5, 3, 0);
         y.read(0);
         Steps.rounds(y, 0, 0, 1, 2, 3);
         due("6: three fragments, but no quorum", Steps.rounds(y, 0, 0, 1, 2), 1);
@@ -430,12 +430,12 @@ public final class PromiseTest {
         int[][] most = {{3, 1, 1}, {3, 2, 0}, {3, 3, 0}, {4, 1, 1}, {4, 2, 1}, {5, 1, 2}, {5, 3, 1},
             {6, 1, 2}, {7, 1, 3}, {7, 2, 2}, {7, 3, 2}, {7, 5, 1}, {7, 6, 0}, {7, 7, 0}};
         for (int[] row : most) {
-            SealedFragmentRegister x = new SealedFragmentRegister(row[0], row[1], 0);
+            Run x = new Run(row[0], row[1], 0);
             for (int s = 0; s < row[0]; s++) {
                 due("7: crash " + s + " of " + row[0] + ", " + row[1], x.crash(s), s < row[2]);
             }
         }
-        SealedFragmentRegister x = new SealedFragmentRegister(7, 3, 1);
+        Run x = new Run(7, 3, 1);
         for (int s : new int[] {-1, 7, 8, LOW, HIGH}) {
             due("7: no server", x.crash(s), false);
         }
@@ -459,7 +459,7 @@ public final class PromiseTest {
     }
 
     private void promise8() {
-        SealedFragmentRegister x = three();
+        Run x = three();
         for (int c : NO_CLIENTS) {
             due("8: no client", x.stop(c), false);
         }
@@ -484,7 +484,7 @@ public final class PromiseTest {
     }
 
     private void promise9() {
-        SealedFragmentRegister x = three();
+        Run x = three();
         for (int c : NO_CLIENTS) {
             due("9: no client", x.phase(c), -1);
         }
@@ -512,7 +512,7 @@ public final class PromiseTest {
     }
 
     private void promise10() {
-        SealedFragmentRegister x = new SealedFragmentRegister(7, 3, 0);
+        Run x = new Run(7, 3, 0);
         for (int c : NO_CLIENTS) {
             due("10: no client", x.heard(c), -1);
         }
@@ -537,7 +537,7 @@ public final class PromiseTest {
         Steps.rounds(x, 1, 0, 1);
         x.stop(1);
         due("10: crashed", x.heard(1), 0);
-        SealedFragmentRegister y = withTagZeroDropped();
+        Run y = withTagZeroDropped();
         Steps.writeUpToStore(y, 3, 98, 0, 1);
         y.deliver(3, 2, 1);
         y.read(0);
@@ -548,7 +548,7 @@ public final class PromiseTest {
     }
 
     private void promise11() {
-        SealedFragmentRegister x = new SealedFragmentRegister(3, 1, 3);
+        Run x = new Run(3, 1, 3);
         for (int c : NO_CLIENTS) {
             due("11: no client", x.tag(c), -1);
         }
@@ -580,7 +580,7 @@ public final class PromiseTest {
     }
 
     private void promise11SealsHeard() {
-        SealedFragmentRegister x = three();
+        Run x = three();
         x.read(0);
         x.write(2, 7);
         x.deliver(0, 0, 0);
@@ -593,7 +593,7 @@ public final class PromiseTest {
         x.hear(2, 0, 0);
         Steps.round(x, 2, 2);
         due("11: a write with old seals", x.tag(2), 10);
-        SealedFragmentRegister y = three();
+        Run y = three();
         Steps.write(y, 4, 5, 0, 1);
         y.read(0);
         due("11: first a high one", Steps.round(y, 0, 0), 1);
@@ -602,7 +602,7 @@ public final class PromiseTest {
     }
 
     private void promise12() {
-        SealedFragmentRegister x = new SealedFragmentRegister(5, 3, 1);
+        Run x = new Run(5, 3, 1);
         for (int c : NO_CLIENTS) {
             due("12: no client", x.result(c), 0);
         }
@@ -612,7 +612,7 @@ public final class PromiseTest {
         due("12: finished", x.finished(0), 1);
         long[] blocks = {1, -1, Long.MIN_VALUE, Long.MAX_VALUE, 0x0123456789ABCDEFL, 0xFF00FF00FF00FF00L};
         for (int i = 0; i < blocks.length; i++) {
-            SealedFragmentRegister y = new SealedFragmentRegister(5, 3, 1);
+            Run y = new Run(5, 3, 1);
             Steps.write(y, 1, blocks[i], 0, 1, 2, 3);
             due("12: a writer has none", y.result(1), 0);
             y.read(2);
@@ -644,7 +644,7 @@ public final class PromiseTest {
     }
 
     private void writeAndRead(int n, int k, int set) {
-        SealedFragmentRegister x = new SealedFragmentRegister(n, k, 1);
+        Run x = new Run(n, k, 1);
         int q = Integer.bitCount(set);
         int[] quorum = new int[q];
         int[] backwards = new int[q];
@@ -664,7 +664,7 @@ public final class PromiseTest {
     }
 
     private void promise13() {
-        SealedFragmentRegister x = three();
+        Run x = three();
         for (int c : NO_CLIENTS) {
             due("13: no client", x.finished(c), -1);
         }
@@ -683,7 +683,7 @@ public final class PromiseTest {
     }
 
     private void promise14() {
-        SealedFragmentRegister x = new SealedFragmentRegister(3, 1, 1);
+        Run x = new Run(3, 1, 1);
         for (int s : new int[] {-1, 3, 7, LOW, HIGH}) {
             due("14: no server", x.held(s), -1);
         }
@@ -699,7 +699,7 @@ public final class PromiseTest {
     }
 
     private void promise15() {
-        SealedFragmentRegister x = new SealedFragmentRegister(3, 1, 2);
+        Run x = new Run(3, 1, 2);
         for (int c = 0; c < 5; c++) {
             x.write(c, 100 + c);
         }
@@ -727,7 +727,7 @@ public final class PromiseTest {
         due("15: no second", x.heldTag(2, 1), -1);
     }
 
-    private void dueTags(SealedFragmentRegister x, int... tags) {
+    private void dueTags(Run x, int... tags) {
         due("15: held", x.held(0), tags.length);
         for (int i = 0; i < tags.length; i++) {
             due("15: tag " + i, x.heldTag(0, i), tags[i]);
@@ -743,7 +743,7 @@ public final class PromiseTest {
                 fragmentsOf(n, k, 0x80L << 56);
             }
         }
-        SealedFragmentRegister x = new SealedFragmentRegister(5, 3, 0);
+        Run x = new Run(5, 3, 0);
         due("16: of the block 0", x.fragment(0, 0, 0), 0);
         for (int s : new int[] {-1, 5, 7, LOW, HIGH}) {
             due("16: no server", x.fragment(s, 0, 0), -1);
@@ -763,7 +763,7 @@ public final class PromiseTest {
     }
 
     private void fragmentsOf(int n, int k, long block) {
-        SealedFragmentRegister x = new SealedFragmentRegister(n, k, 0);
+        Run x = new Run(n, k, 0);
         int[] quorum = new int[x.quorum()];
         for (int s = 0; s < quorum.length; s++) {
             quorum[s] = s;
@@ -780,7 +780,7 @@ public final class PromiseTest {
     }
 
     private void promise17() {
-        SealedFragmentRegister x = three();
+        Run x = three();
         for (int s : new int[] {-1, 3, 7, LOW, HIGH}) {
             due("17: no server", x.seal(s), -1);
         }
@@ -806,7 +806,7 @@ public final class PromiseTest {
         due("17: not by looking", x.seal(2), 0);
         x.deliver(3, 2, 0);
         due("17: by fetching", x.seal(2), 9);
-        SealedFragmentRegister y = three();
+        Run y = three();
         y.read(0);
         Steps.rounds(y, 0, 0, 1);
         Steps.write(y, 1, 5, 0, 1);
@@ -815,7 +815,7 @@ public final class PromiseTest {
     }
 
     private void promise18() {
-        SealedFragmentRegister x = three();
+        Run x = three();
         for (int c : NO_CLIENTS) {
             due("18: no client", x.requests(c, 0), -1);
         }
@@ -837,7 +837,7 @@ public final class PromiseTest {
     }
 
     private void promise19() {
-        SealedFragmentRegister x = three();
+        Run x = three();
         for (int c : NO_CLIENTS) {
             due("19: no client", x.replies(c, 0), -1);
         }
@@ -866,10 +866,10 @@ public final class PromiseTest {
         for (int n = 3; n <= 7; n++) {
             for (int k = 1; k <= n; k++) {
                 due("20: N " + n + ", K " + k,
-                    new SealedFragmentRegister(n, k, 0).quorum(), quorums[n - 3][k - 1]);
+                    new Run(n, k, 0).quorum(), quorums[n - 3][k - 1]);
             }
         }
-        SealedFragmentRegister x = three();
+        Run x = three();
         x.crash(0);
         due("20: a crash does not change it", x.quorum(), 2);
     }
