@@ -19,8 +19,11 @@ public final class LanguageTest {
         "int heldTag(int, int)", "int fragment(int, int, int)", "int seal(int)",
         "int requests(int, int)", "int replies(int, int)", "int quorum()",
     };
-    private static final String FORBIDDEN = "\\b(import|package|throw|throws|try|catch|synchronized"
+    private static final String FORBIDDEN = "\\b(package|throw|throws|try|catch|synchronized"
         + "|assert|native|protected|volatile|Random|Thread|System\\.(?!arraycopy))\\b|->|::";
+
+    private static final String IMPORTED = "java\\.util\\.(ArrayList|List|Arrays|Iterator)";
+    private static final String ARROW_OF_SWITCH = "\\b(case\\b[^:;{}]*?|default)\\s*->";
 
     private final Checks checks = new Checks();
 
@@ -54,6 +57,9 @@ public final class LanguageTest {
         }
         checks.due("missing: " + due, due.size(), 0);
         for (Method method : face.getDeclaredMethods()) {
+            if (method.isSynthetic()) {
+                continue;
+            }
             boolean open = Modifier.isPublic(method.getModifiers());
             checks.due("private: " + method, open || Modifier.isPrivate(method.getModifiers()), true);
             checks.due("no second " + method, !open && names.contains(method.getName()), false);
@@ -95,7 +101,11 @@ public final class LanguageTest {
 
     private void text(String program) {
         String code = program.replaceAll("(?s)/\\*.*?\\*/", "").replaceAll("//[^\n]*", "");
-        Matcher forbidden = Pattern.compile(FORBIDDEN).matcher(code);
+        Matcher imports = Pattern.compile("\\bimport\\s+([^;]*);").matcher(code);
+        while (imports.find()) {
+            checks.due(imports.group(), imports.group(1).matches(IMPORTED), true);
+        }
+        Matcher forbidden = Pattern.compile(FORBIDDEN).matcher(code.replaceAll(ARROW_OF_SWITCH, ""));
         while (forbidden.find()) {
             checks.due("forbidden: " + forbidden.group(), true, false);
         }
