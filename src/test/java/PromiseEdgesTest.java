@@ -15,6 +15,7 @@ public final class PromiseEdgesTest {
         test.writtenBlock();
         test.read();
         test.again();
+        test.againRefusals();
         test.againIsTheSameRead();
         test.deliverPlaces();
         test.deliverOrder();
@@ -223,13 +224,31 @@ public final class PromiseEdgesTest {
             Steps.round(x, 3, 1);
             due("after phase " + phase, x.again(3), -3);
         }
-        Run y = three(0);
-        due("idle", y.again(0), -3);
+    }
+
+    private void againRefusals() {
+        checks.sentence("Promise 4: 0; -1 when there is no client c, -2 when it has crashed, -3 when it is"
+            + " not so, -4 when it is crowded");
+        Run x = three(0);
         for (int c : new int[] {LOW, -1, 5, HIGH}) {
-            due("of no client", y.again(c), -1);
+            due("no client", x.again(c), -1);
         }
+        due("idle", x.again(0), -3);
+        x.stop(0);
+        due("crashed", x.again(0), -2);
+        Sizes sizes = Sizes.ALL[0];
+        Run y = inVain(sizes);
+        Steps.rounds(y, 0, 0, 1);
+        for (int letters = 2; letters <= 4; letters += 2) {
+            due("letters", y.requests(0, 2), letters);
+            due("not crowded", y.again(0), 0);
+            Steps.rounds(y, 0, 0, 1, 0, 1);
+        }
+        due("letters", y.requests(0, 2), 6);
+        due("crowded", y.again(0), -4);
+        due("still in phase 5", y.phase(0), 5);
         y.stop(0);
-        due("crashed", y.again(0), -2);
+        due("crashed, too", y.again(0), -2);
     }
 
     private void againIsTheSameRead() {
@@ -253,6 +272,18 @@ public final class PromiseEdgesTest {
             due("once" + sizes.at(), x.finished(0), 1);
             due("result" + sizes.at(), x.result(0), 99);
         }
+        Run y = three(0);
+        Steps.write(y, 1, 5, 0, 1);
+        Steps.upTo(2, y, 2, 6, 0, 1);
+        y.deliver(2, 0, 0);
+        y.deliver(2, 1, 0);
+        Steps.upTo(5, y, 0, 0, 0, 1);
+        due("tag", y.tag(0), 9);
+        due("in vain", Steps.rounds(y, 0, 0, 1), 1);
+        due("again", y.again(0), 0);
+        due("a tag other than 0 stays, too", y.tag(0), 9);
+        due("one reply", Steps.round(y, 0, 0), 1);
+        due("until the look ends", y.tag(0), 9);
     }
 
     /** Seven letters lie at server 2: of phases 4, 5, 4, 5, 1, 2, 3, in this order. */

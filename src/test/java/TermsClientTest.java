@@ -4,6 +4,7 @@ public final class TermsClientTest {
 
     public static void main(String[] args) {
         TermsClientTest test = new TermsClientTest();
+        test.overtaking();
         test.tags();
         test.tagZero();
         test.higherTag();
@@ -32,6 +33,27 @@ public final class TermsClientTest {
 
     private static Run three(int d) {
         return new Run(3, 1, d);
+    }
+
+    private void overtaking() {
+        checks.sentence("Letters may be slow and may overtake one another");
+        Run x = three(3);
+        Steps.write(x, 0, 5, 0, 1);
+        for (int phase = 3; phase >= 1; phase--) {
+            due("the last sent is delivered first", x.deliver(0, 2, phase - 1), phase);
+        }
+        due("sealed before it is stored, and stored all the same", x.fragment(2, 8, 0), 5);
+        due("seal", x.seal(2), 8);
+        x.read(0);
+        due("deliver", x.deliver(0, 2, 0), 4);
+        due("the last reply is heard first", x.hear(0, 2, 3), 1);
+        for (int j = 2; j >= 0; j--) {
+            due("then the older ones", x.hear(0, 2, j), 0);
+        }
+        x.deliver(0, 1, 0);
+        x.deliver(0, 0, 0);
+        due("another server's reply overtakes", x.hear(0, 0, 0), 2);
+        due("and that one is late", x.hear(0, 1, 0), 0);
     }
 
     private void tags() {

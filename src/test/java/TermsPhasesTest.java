@@ -9,6 +9,7 @@ public final class TermsPhasesTest {
 
     public static void main(String[] args) {
         TermsPhasesTest test = new TermsPhasesTest();
+        test.firstPhases();
         test.askReply();
         test.askEnds();
         test.askTag();
@@ -65,6 +66,20 @@ public final class TermsPhasesTest {
             due("phase then" + sizes.at(), x.phase(3), end == 2 ? phase + 1 : 0);
             due("finished then" + sizes.at(), x.finished(3), end == 2 ? 0 : 1);
             due("requests then" + sizes.at(), x.requests(3, 0), end == 2 ? 1 : 0);
+        }
+    }
+
+    private void firstPhases() {
+        checks.sentence("1 ASK, the first one of a write ... 4 LOOK, the first one of a read");
+        for (int c = 0; c < 5; c++) {
+            Run x = three(0);
+            x.write(c, 5);
+            due("a write's", x.phase(c), 1);
+            due("its letter", x.deliver(c, 1, 0), 1);
+            Run y = three(0);
+            y.read(c);
+            due("a read's", y.phase(c), 4);
+            due("its letter", y.deliver(c, 1, 0), 4);
         }
     }
 
