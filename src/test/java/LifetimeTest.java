@@ -1,10 +1,8 @@
 /** "What it is": every answer up to the 512th is promised, so runs of just so many calls are right. */
-public final class LifetimeTest {
-    private final Checks checks = new Checks();
-
+public final class LifetimeTest extends Sentences {
     public static void main(String[] args) {
         LifetimeTest test = new LifetimeTest();
-        test.checks.sentence("an object is used for at most 512 calls after it has been made");
+        test.sentence("an object is used for at most 512 calls after it has been made");
         test.writes();
         test.reads();
         test.lookingAgain();
@@ -14,11 +12,11 @@ public final class LifetimeTest {
     }
 
     private void due(Run x, String call, long got, long want) {
-        checks.due("call " + x.calls() + ": " + call, got, want);
+        due("call " + x.calls() + ": " + call, got, want);
     }
 
     private void dueEnd(Run x) {
-        checks.due("calls made", x.calls(), Run.MOST_CALLS);
+        due("calls made", x.calls(), Run.MOST_CALLS);
     }
 
     /** One phase by the servers 0 and 1 of three. */
@@ -103,8 +101,8 @@ public final class LifetimeTest {
             due(x, "again", x.again(0), -3);
             due(x, "deliver", x.deliver(0, 0, 0), -2);
             due(x, "hear", x.hear(4, 2, 0), -2);
-            checks.due("crash", x.crash(0), false);
-            checks.due("stop", x.stop(5), false);
+            due("crash", x.crash(0), false);
+            due("stop", x.stop(5), false);
             due(x, "fragment", x.fragment(0, 8, 0), -1);
         }
         due(x, "write", x.write(4, 0x070201L), 0);

@@ -1,10 +1,5 @@
 /** For each promise the values below, at and above each limit that it names, and its refusals. */
-public final class PromiseEdgesTest {
-    private static final int LOW = Integer.MIN_VALUE;
-    private static final int HIGH = Integer.MAX_VALUE;
-
-    private final Checks checks = new Checks();
-
+public final class PromiseEdgesTest extends Sentences {
     public static void main(String[] args) {
         PromiseEdgesTest test = new PromiseEdgesTest();
         test.numberOfServers();
@@ -41,20 +36,8 @@ public final class PromiseEdgesTest {
         test.checks.end();
     }
 
-    private void due(String call, long got, long want) {
-        checks.due(call, got, want);
-    }
-
-    private void due(String call, boolean got, boolean want) {
-        checks.due(call, got, want);
-    }
-
-    private static Run three(int d) {
-        return new Run(3, 1, d);
-    }
-
     private void numberOfServers() {
-        checks.sentence("Promise 1: N is n, but 3 when n is less and 7 when n is more");
+        sentence("Promise 1: N is n, but 3 when n is less and 7 when n is more");
         int[][] rows = {{LOW, 3}, {-3, 3}, {0, 3}, {2, 3}, {3, 3}, {4, 4}, {5, 5}, {6, 6}, {7, 7},
             {8, 7}, {9, 7}, {HIGH, 7}};
         for (int[] row : rows) {
@@ -68,7 +51,7 @@ public final class PromiseEdgesTest {
     }
 
     private void fragmentsNeeded() {
-        checks.sentence("Promise 1: K is k, but 1 when k is less and N when k is more");
+        sentence("Promise 1: K is k, but 1 when k is less and N when k is more");
         for (int n = 3; n <= 7; n++) {
             for (int k : new int[] {LOW, -1, 0, 1, 2, 3, 4, 5, 6, 7, 8, 9, HIGH}) {
                 int taken = k < 1 ? 1 : k > n ? n : k;
@@ -87,7 +70,7 @@ public final class PromiseEdgesTest {
     }
 
     private void oldTags() {
-        checks.sentence("Promise 1: D is d, but 0 when d is less and 3 when d is more");
+        sentence("Promise 1: D is d, but 0 when d is less and 3 when d is more");
         int[][] rows = {{LOW, 0}, {-1, 0}, {0, 0}, {1, 1}, {2, 2}, {3, 3}, {4, 3}, {5, 3}, {HIGH, 3}};
         for (int[] row : rows) {
             Run x = three(row[0]);
@@ -100,7 +83,7 @@ public final class PromiseEdgesTest {
     }
 
     private void newObject() {
-        checks.sentence("Promise 1: No letters, no operations, nobody has crashed");
+        sentence("Promise 1: No letters, no operations, nobody has crashed");
         for (Sizes sizes : Sizes.ALL) {
             Run x = sizes.run(0);
             for (int c = 0; c < 5; c++) {
@@ -122,7 +105,7 @@ public final class PromiseEdgesTest {
     }
 
     private void write() {
-        checks.sentence("Promise 2: Client c begins a write of the block. 0; -1 when there is no client"
+        sentence("Promise 2: Client c begins a write of the block. 0; -1 when there is no client"
             + " c, -2 when it has crashed, -3 when it has an operation under way, -4 when it is crowded");
         int[][] rows = {{LOW, -1}, {-1, -1}, {0, 0}, {1, 0}, {2, 0}, {3, 0}, {4, 0}, {5, -1}, {HIGH, -1}};
         for (int[] row : rows) {
@@ -145,7 +128,7 @@ public final class PromiseEdgesTest {
     }
 
     private void writtenBlock() {
-        checks.sentence("Promise 2: Client c begins a write of the block");
+        sentence("Promise 2: Client c begins a write of the block");
         for (long block : new long[] {0, 1, -1, Long.MIN_VALUE, Long.MAX_VALUE, 0x100000000L}) {
             for (Sizes sizes : Sizes.ALL) {
                 Run x = sizes.run(0);
@@ -168,7 +151,7 @@ public final class PromiseEdgesTest {
     }
 
     private void read() {
-        checks.sentence("Promise 3: Client c begins a read. 0; -1 when there is no client c, -2 when it"
+        sentence("Promise 3: Client c begins a read. 0; -1 when there is no client c, -2 when it"
             + " has crashed, -3 when it has an operation under way, -4 when it is crowded");
         int[][] rows = {{LOW, -1}, {-1, -1}, {0, 0}, {1, 0}, {2, 0}, {3, 0}, {4, 0}, {5, -1}, {HIGH, -1}};
         for (int[] row : rows) {
@@ -200,7 +183,7 @@ public final class PromiseEdgesTest {
     }
 
     private void again() {
-        checks.sentence("Promise 4: which is in phase 5, in which at least Q replies have counted (and"
+        sentence("Promise 4: which is in phase 5, in which at least Q replies have counted (and"
             + " the read is not finished)");
         for (Sizes sizes : Sizes.ALL) {
             for (int replies = 0; replies <= sizes.n(); replies++) {
@@ -227,7 +210,7 @@ public final class PromiseEdgesTest {
     }
 
     private void againRefusals() {
-        checks.sentence("Promise 4: 0; -1 when there is no client c, -2 when it has crashed, -3 when it is"
+        sentence("Promise 4: 0; -1 when there is no client c, -2 when it has crashed, -3 when it is"
             + " not so, -4 when it is crowded");
         Run x = three(0);
         for (int c : new int[] {LOW, -1, 5, HIGH}) {
@@ -252,7 +235,7 @@ public final class PromiseEdgesTest {
     }
 
     private void againIsTheSameRead() {
-        checks.sentence("Promise 4: gives that phase up and begins phase 4 of the same read anew");
+        sentence("Promise 4: gives that phase up and begins phase 4 of the same read anew");
         for (Sizes sizes : Sizes.ALL) {
             Run x = inVain(sizes);
             Steps.rounds(x, 0, sizes.firstQuorum());
@@ -298,7 +281,7 @@ public final class PromiseEdgesTest {
     }
 
     private void deliverPlaces() {
-        checks.sentence("Promise 5: -1 when there is no client c or no server s, -2 when no such request"
+        sentence("Promise 5: -1 when there is no client c or no server s, -2 when no such request"
             + " waits (j below 0, too, here and in hear(); so also when s has crashed)");
         for (int waiting = 0; waiting <= 7; waiting++) {
             Run x = withSevenLetters();
@@ -324,7 +307,7 @@ public final class PromiseEdgesTest {
     }
 
     private void deliverOrder() {
-        checks.sentence("Promise 5: the request at place j, from 0 for the one that was sent first, among"
+        sentence("Promise 5: the request at place j, from 0 for the one that was sent first, among"
             + " those of client c that wait at server s. The phase (1 .. 5) in which it was sent");
         for (int j = 0; j < 7; j++) {
             Run x = withSevenLetters();
@@ -337,7 +320,7 @@ public final class PromiseEdgesTest {
     }
 
     private void hearPlaces() {
-        checks.sentence("Promise 6: -1 when there is no client c or no server s, -2 when no such reply"
+        sentence("Promise 6: -1 when there is no client c or no server s, -2 when no such reply"
             + " waits");
         for (int waiting = 0; waiting <= 7; waiting++) {
             Run x = withSevenLetters();
@@ -358,7 +341,7 @@ public final class PromiseEdgesTest {
 
     /** Of the replies the one of the phase that is on counts, so that its place shows. */
     private void hearOrder() {
-        checks.sentence("Promise 6: the reply at place j, from 0 for the one that was sent first, among"
+        sentence("Promise 6: the reply at place j, from 0 for the one that was sent first, among"
             + " those of server s that wait for c");
         for (int place = 0; place < 5; place++) {
             for (int j = 0; j < 5; j++) {
@@ -380,7 +363,7 @@ public final class PromiseEdgesTest {
     }
 
     private void hearAnswers() {
-        checks.sentence("Promise 6: 0 when it does not count, 1 when it counts and the phase goes on, 2"
+        sentence("Promise 6: 0 when it does not count, 1 when it counts and the phase goes on, 2"
             + " when the next phase begins by it, 3 when the operation is finished by it");
         for (Sizes sizes : Sizes.ALL) {
             Run x = sizes.run(0);
@@ -405,7 +388,7 @@ public final class PromiseEdgesTest {
     }
 
     private void crash() {
-        checks.sentence("Promise 7: Server s crashes: true; false when there is no server s, it has"
+        sentence("Promise 7: Server s crashes: true; false when there is no server s, it has"
             + " crashed already, or F servers have crashed");
         for (Sizes sizes : Sizes.ALL) {
             for (int first = 0; first < sizes.n(); first++) {
@@ -423,7 +406,7 @@ public final class PromiseEdgesTest {
     }
 
     private void crashTwice() {
-        checks.sentence("Promise 7: or F servers have crashed");
+        sentence("Promise 7: or F servers have crashed");
         Run x = new Run(7, 1, 0);
         for (int s : new int[] {LOW, -1, 7, HIGH}) {
             due("no server", x.crash(s), false);
@@ -442,7 +425,7 @@ public final class PromiseEdgesTest {
     }
 
     private void stop() {
-        checks.sentence("Promise 8: Client c crashes: true; false when there is no client c or it has"
+        sentence("Promise 8: Client c crashes: true; false when there is no client c or it has"
             + " crashed already");
         Run x = three(0);
         for (int c : new int[] {LOW, -1, 5, HIGH}) {
@@ -457,7 +440,7 @@ public final class PromiseEdgesTest {
     }
 
     private void phase() {
-        checks.sentence("Promise 9: The phase 1 .. 5 that client c is in, 0 when it has no operation under"
+        sentence("Promise 9: The phase 1 .. 5 that client c is in, 0 when it has no operation under"
             + " way, 6 when it has crashed, -1 when there is no client c");
         for (int phase = 1; phase <= 5; phase++) {
             for (int c = 0; c < 5; c++) {
@@ -477,7 +460,7 @@ public final class PromiseEdgesTest {
     }
 
     private void heard() {
-        checks.sentence("Promise 10: How many replies have counted in the phase that client c is in; 0"
+        sentence("Promise 10: How many replies have counted in the phase that client c is in; 0"
             + " when it has no operation under way or has crashed; -1 when there is no client c");
         for (Sizes sizes : Sizes.ALL) {
             Run x = inVain(sizes);
@@ -504,7 +487,7 @@ public final class PromiseEdgesTest {
     }
 
     private void tag() {
-        checks.sentence("Promise 11: The TAG of client c, as it became latest; 0 when it never did; -1"
+        sentence("Promise 11: The TAG of client c, as it became latest; 0 when it never did; -1"
             + " when there is no client c. (A crash does not change it.)");
         for (int c = 0; c < 5; c++) {
             Run x = three(0);
@@ -529,7 +512,7 @@ public final class PromiseEdgesTest {
     }
 
     private void result() {
-        checks.sentence("Promise 12: The result of the latest read that client c has finished; 0 when it"
+        sentence("Promise 12: The result of the latest read that client c has finished; 0 when it"
             + " has finished none or there is no client c. (A crash does not change it.)");
         for (int c = 0; c < 5; c++) {
             Run x = three(0);
@@ -558,7 +541,7 @@ public final class PromiseEdgesTest {
     }
 
     private void finished() {
-        checks.sentence("Promise 13: How many operations client c has finished; -1 when there is no"
+        sentence("Promise 13: How many operations client c has finished; -1 when there is no"
             + " client c");
         Run x = three(0);
         x.crash(2);
@@ -579,7 +562,7 @@ public final class PromiseEdgesTest {
     }
 
     private void held() {
-        checks.sentence("Promise 14: Of how many tags server s holds a fragment; -1 when there is no"
+        sentence("Promise 14: Of how many tags server s holds a fragment; -1 when there is no"
             + " server s");
         for (int d = 0; d <= 3; d++) {
             Run x = new Run(4, 2, d);
@@ -595,7 +578,7 @@ public final class PromiseEdgesTest {
     }
 
     private void heldTag() {
-        checks.sentence("Promise 15: The i-th of the tags of which server s holds a fragment, from 0 for"
+        sentence("Promise 15: The i-th of the tags of which server s holds a fragment, from 0 for"
             + " the highest; -1 when there is no server s or i is not 0 .. held(s) - 1");
         for (int d = 0; d <= 3; d++) {
             Run x = three(d);
@@ -616,7 +599,7 @@ public final class PromiseEdgesTest {
     }
 
     private void fragmentBytes() {
-        checks.sentence("Promise 16: Byte r (0 .. 255) of the fragment that server s holds under the tag;"
+        sentence("Promise 16: Byte r (0 .. 255) of the fragment that server s holds under the tag;"
             + " -1 when ... r is not 0 .. L - 1");
         for (Sizes sizes : Sizes.ALL) {
             Run x = sizes.run(1);
@@ -635,7 +618,7 @@ public final class PromiseEdgesTest {
     }
 
     private void fragmentTags() {
-        checks.sentence("Promise 16: -1 when there is no server s, it holds none under that tag");
+        sentence("Promise 16: -1 when there is no server s, it holds none under that tag");
         Run x = three(1);
         for (int c = 0; c < 3; c++) {
             Steps.write(x, c, c + 1, 0, 1);
@@ -653,7 +636,7 @@ public final class PromiseEdgesTest {
     }
 
     private void seal() {
-        checks.sentence("Promise 17: The seal of server s; -1 when there is no server s");
+        sentence("Promise 17: The seal of server s; -1 when there is no server s");
         Run x = new Run(7, 1, 0);
         Steps.write(x, 3, 1, 0, 1, 2, 3);
         for (int s = 0; s < 7; s++) {
@@ -669,7 +652,7 @@ public final class PromiseEdgesTest {
     }
 
     private void requests() {
-        checks.sentence("Promise 18: How many requests of client c wait at server s; -1 when there is no"
+        sentence("Promise 18: How many requests of client c wait at server s; -1 when there is no"
             + " client c or no server s");
         Run x = withSevenLetters();
         for (int waiting = 7; waiting >= 0; waiting--) {
@@ -689,7 +672,7 @@ public final class PromiseEdgesTest {
     }
 
     private void replies() {
-        checks.sentence("Promise 19: How many replies of server s wait for client c; -1 when there is no"
+        sentence("Promise 19: How many replies of server s wait for client c; -1 when there is no"
             + " client c or no server s");
         Run x = withSevenLetters();
         for (int waiting = 0; waiting < 7; waiting++) {
@@ -713,7 +696,7 @@ public final class PromiseEdgesTest {
     }
 
     private void quorum() {
-        checks.sentence("Promise 20: The QUORUM");
+        sentence("Promise 20: The QUORUM");
         for (Sizes sizes : Sizes.ALL) {
             Run x = sizes.run(0);
             due("quorum" + sizes.at(), x.quorum(), sizes.q());

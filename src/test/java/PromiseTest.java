@@ -1,10 +1,6 @@
 /** For each promise of the document its ordinary calls, the edges that it names, and wrong inputs. */
-public final class PromiseTest {
-    private static final int LOW = Integer.MIN_VALUE;
-    private static final int HIGH = Integer.MAX_VALUE;
+public final class PromiseTest extends Sentences {
     private static final int[] NO_CLIENTS = {-1, 5, 6, LOW, HIGH};
-
-    private final Checks checks = new Checks();
 
     public static void main(String[] args) {
         PromiseTest test = new PromiseTest();
@@ -32,18 +28,6 @@ public final class PromiseTest {
         test.promise19();
         test.promise20();
         test.checks.end();
-    }
-
-    private void due(String call, long got, long want) {
-        checks.due(call, got, want);
-    }
-
-    private void due(String call, boolean got, boolean want) {
-        checks.due(call, got, want);
-    }
-
-    private static Run three() {
-        return new Run(3, 1, 0);
     }
 
     private static int serversOf(Run x) {
@@ -111,7 +95,7 @@ public final class PromiseTest {
     }
 
     private void promise2() {
-        Run x = three();
+        Run x = three(0);
         for (int c : NO_CLIENTS) {
             due("2: write of no client", x.write(c, 1), -1);
         }
@@ -142,7 +126,7 @@ public final class PromiseTest {
     }
 
     private void promise2Crowded() {
-        Run x = three();
+        Run x = three(0);
         Steps.write(x, 1, 7, 0, 1);
         due("2: three letters lie", x.requests(1, 2), 3);
         due("2: not crowded by three", Steps.read(x, 1, 0, 1), 3);
@@ -162,7 +146,7 @@ public final class PromiseTest {
         due("2: a crashed server crowds nobody", x.write(1, 9), 0);
         x.stop(1);
         due("2: crashed comes first", x.write(1, 9), -2);
-        Run y = three();
+        Run y = three(0);
         Steps.write(y, 1, 7, 0, 1);
         Steps.read(y, 1, 0, 1);
         for (int i = 0; i < 5; i++) {
@@ -175,7 +159,7 @@ public final class PromiseTest {
     }
 
     private void promise3() {
-        Run x = three();
+        Run x = three(0);
         for (int c : NO_CLIENTS) {
             due("3: read of no client", x.read(c), -1);
         }
@@ -190,7 +174,7 @@ public final class PromiseTest {
         }
         x.stop(4);
         due("3: crashed", x.read(4), -2);
-        Run y = three();
+        Run y = three(0);
         Steps.write(y, 0, 5, 0, 1);
         Steps.read(y, 0, 0, 1);
         due("3: crowded", y.read(0), -4);
@@ -200,24 +184,15 @@ public final class PromiseTest {
         y.hear(0, 2, 0);
         due("3: not crowded by four", y.read(0), 0);
         due("3: under way comes before crowded", y.read(0), -3);
-        Run z = three();
+        Run z = three(0);
         z.crash(1);
         z.read(0);
         due("3: no request to a crashed server", z.requests(0, 1), 0);
         due("3: a request to the others", z.requests(0, 2), 1);
     }
 
-    /** Servers 0 and 1 have dropped the tag 0 for a tag that is nowhere sealed. */
-    private static Run withTagZeroDropped() {
-        Run x = three();
-        Steps.writeUpToStore(x, 4, 99, 0, 1);
-        x.deliver(4, 0, 0);
-        x.deliver(4, 1, 0);
-        return x;
-    }
-
     private void promise4() {
-        Run x = withTagZeroDropped();
+        Run x = Steps.withTagZeroDropped();
         for (int c : NO_CLIENTS) {
             due("4: again of no client", x.again(c), -1);
         }
@@ -250,7 +225,7 @@ public final class PromiseTest {
     }
 
     private void promise4Crowded() {
-        Run x = withTagZeroDropped();
+        Run x = Steps.withTagZeroDropped();
         x.read(0);
         Steps.rounds(x, 0, 0, 1, 0, 1);
         due("4: two lie", x.requests(0, 2), 2);
@@ -272,7 +247,7 @@ public final class PromiseTest {
     }
 
     private void promise5() {
-        Run x = three();
+        Run x = three(0);
         x.write(0, 5);
         for (int c : NO_CLIENTS) {
             due("5: deliver of no client", x.deliver(c, 0, 0), -1);
@@ -298,7 +273,7 @@ public final class PromiseTest {
     }
 
     private void promise5Phases() {
-        Run x = three();
+        Run x = three(0);
         Steps.write(x, 0, 5, 0, 1);
         due("5: place 1", x.deliver(0, 2, 1), 2);
         due("5: the tag 0 is dropped", x.heldTag(2, 0), 8);
@@ -313,7 +288,7 @@ public final class PromiseTest {
         due("5: look", x.deliver(3, 2, 0), 4);
         due("5: fetch", x.deliver(3, 2, 0), 5);
         promise5Order();
-        Run y = three();
+        Run y = three(0);
         Steps.write(y, 0, 5, 0, 1);
         Steps.writeUpToStore(y, 1, 6, 0, 1);
         due("5: a lower tag's store", y.deliver(0, 2, 1), 2);
@@ -328,7 +303,7 @@ public final class PromiseTest {
     }
 
     private void promise5Order() {
-        Run x = three();
+        Run x = three(0);
         Steps.write(x, 0, 5, 0, 1);
         Steps.read(x, 0, 0, 1);
         due("5: from the middle of five", x.deliver(0, 2, 1), 2);
@@ -338,7 +313,7 @@ public final class PromiseTest {
     }
 
     private void promise6() {
-        Run x = three();
+        Run x = three(0);
         x.write(0, 5);
         due("6: no reply yet", x.hear(0, 0, 0), -2);
         x.deliver(0, 0, 0);
@@ -378,7 +353,7 @@ public final class PromiseTest {
     }
 
     private void promise6CrashedServer() {
-        Run x = three();
+        Run x = three(0);
         x.read(0);
         x.deliver(0, 2, 0);
         x.crash(2);
@@ -389,14 +364,14 @@ public final class PromiseTest {
     }
 
     private void promise6Places() {
-        Run x = three();
+        Run x = three(0);
         x.write(0, 5);
         Steps.rounds(x, 0, 0, 1);
         x.deliver(0, 2, 0);
         x.deliver(0, 2, 0);
         due("6: place 0 is the older", x.hear(0, 2, 0), 0);
         due("6: then the younger", x.hear(0, 2, 0), 1);
-        Run y = three();
+        Run y = three(0);
         y.write(0, 5);
         Steps.rounds(y, 0, 0, 1);
         y.deliver(0, 2, 0);
@@ -459,7 +434,7 @@ public final class PromiseTest {
     }
 
     private void promise8() {
-        Run x = three();
+        Run x = three(0);
         for (int c : NO_CLIENTS) {
             due("8: no client", x.stop(c), false);
         }
@@ -484,7 +459,7 @@ public final class PromiseTest {
     }
 
     private void promise9() {
-        Run x = three();
+        Run x = three(0);
         for (int c : NO_CLIENTS) {
             due("9: no client", x.phase(c), -1);
         }
@@ -537,7 +512,7 @@ public final class PromiseTest {
         Steps.rounds(x, 1, 0, 1);
         x.stop(1);
         due("10: crashed", x.heard(1), 0);
-        Run y = withTagZeroDropped();
+        Run y = Steps.withTagZeroDropped();
         Steps.writeUpToStore(y, 3, 98, 0, 1);
         y.deliver(3, 2, 1);
         y.read(0);
@@ -580,7 +555,7 @@ public final class PromiseTest {
     }
 
     private void promise11SealsHeard() {
-        Run x = three();
+        Run x = three(0);
         x.read(0);
         x.write(2, 7);
         x.deliver(0, 0, 0);
@@ -593,7 +568,7 @@ public final class PromiseTest {
         x.hear(2, 0, 0);
         Steps.round(x, 2, 2);
         due("11: a write with old seals", x.tag(2), 10);
-        Run y = three();
+        Run y = three(0);
         Steps.write(y, 4, 5, 0, 1);
         y.read(0);
         due("11: first a high one", Steps.round(y, 0, 0), 1);
@@ -664,7 +639,7 @@ public final class PromiseTest {
     }
 
     private void promise13() {
-        Run x = three();
+        Run x = three(0);
         for (int c : NO_CLIENTS) {
             due("13: no client", x.finished(c), -1);
         }
@@ -780,7 +755,7 @@ public final class PromiseTest {
     }
 
     private void promise17() {
-        Run x = three();
+        Run x = three(0);
         for (int s : new int[] {-1, 3, 7, LOW, HIGH}) {
             due("17: no server", x.seal(s), -1);
         }
@@ -806,7 +781,7 @@ public final class PromiseTest {
         due("17: not by looking", x.seal(2), 0);
         x.deliver(3, 2, 0);
         due("17: by fetching", x.seal(2), 9);
-        Run y = three();
+        Run y = three(0);
         y.read(0);
         Steps.rounds(y, 0, 0, 1);
         Steps.write(y, 1, 5, 0, 1);
@@ -815,7 +790,7 @@ public final class PromiseTest {
     }
 
     private void promise18() {
-        Run x = three();
+        Run x = three(0);
         for (int c : NO_CLIENTS) {
             due("18: no client", x.requests(c, 0), -1);
         }
@@ -837,7 +812,7 @@ public final class PromiseTest {
     }
 
     private void promise19() {
-        Run x = three();
+        Run x = three(0);
         for (int c : NO_CLIENTS) {
             due("19: no client", x.replies(c, 0), -1);
         }
@@ -869,7 +844,7 @@ public final class PromiseTest {
                     new Run(n, k, 0).quorum(), quorums[n - 3][k - 1]);
             }
         }
-        Run x = three();
+        Run x = three(0);
         x.crash(0);
         due("20: a crash does not change it", x.quorum(), 2);
     }

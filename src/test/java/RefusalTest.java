@@ -7,7 +7,7 @@ import java.util.function.Consumer;
 import java.util.function.ToLongFunction;
 
 /** "Terms", its end: which of several refusals is the answer, and that a refused call does nothing. */
-public final class RefusalTest {
+public final class RefusalTest extends Sentences {
     private static final int N = 3;
     private static final int L = 8;
 
@@ -21,7 +21,6 @@ public final class RefusalTest {
     private record Call(String name, ToLongFunction<Run> made) {
     }
 
-    private final Checks checks = new Checks();
     private final List<Call> calls = new ArrayList<>();
     private final Map<String, Consumer<Run>> states = new LinkedHashMap<>();
     private final TreeSet<String> refused = new TreeSet<>();
@@ -33,10 +32,6 @@ public final class RefusalTest {
         test.firstOfLetters();
         test.changesNothing();
         test.checks.end();
-    }
-
-    private void due(String call, long got, long want) {
-        checks.due(call, got, want);
     }
 
     /** Five letters of client 0 lie at server 2, and it has nothing under way. */
@@ -76,7 +71,7 @@ public final class RefusalTest {
     }
 
     private void firstOfBeginning() {
-        checks.sentence("Where a call lists several refusals, the first one that holds is the answer");
+        sentence("Where a call lists several refusals, the first one that holds is the answer");
         Run crowded = new Run(N, 1, 0);
         crowd(crowded);
         dueBeginning("crowded", crowded, -4);
@@ -105,7 +100,7 @@ public final class RefusalTest {
     }
 
     private void firstOfAgain() {
-        checks.sentence("Where a call lists several refusals, the first one that holds is the answer");
+        sentence("Where a call lists several refusals, the first one that holds is the answer");
         Run idle = new Run(N, 1, 0);
         crowd(idle);
         due("again, idle and crowded", idle.again(0), -3);
@@ -132,7 +127,7 @@ public final class RefusalTest {
     }
 
     private void firstOfLetters() {
-        checks.sentence("Where a call lists several refusals, the first one that holds is the answer");
+        sentence("Where a call lists several refusals, the first one that holds is the answer");
         Run x = new Run(N, 1, 0);
         x.crash(2);
         for (int j : new int[] {-1, 0, 7}) {
@@ -147,7 +142,7 @@ public final class RefusalTest {
     }
 
     private void changesNothing() {
-        checks.sentence("A refused call (one that answers a negative number, or false) changes nothing");
+        sentence("A refused call (one that answers a negative number, or false) changes nothing");
         addStates();
         addClientCalls();
         addServerCalls();
@@ -156,7 +151,7 @@ public final class RefusalTest {
             changesNothingIn(state);
         }
         for (String refusal : REFUSALS) {
-            checks.due("seen: " + refusal, refused.contains(refusal), true);
+            due("seen: " + refusal, refused.contains(refusal), true);
         }
     }
 
@@ -258,11 +253,11 @@ public final class RefusalTest {
             }
             boolean isFalse = call.name().equals("crash") || call.name().equals("stop");
             refused.add(call.name() + "=" + (isFalse ? "false" : answer));
-            checks.due(state + ": " + call.name() + " left all as it was",
+            due(state + ": " + call.name() + " left all as it was",
                 Snapshot.of(x, N, L).equals(seen), true);
             Run y = in(state);
             call.made().applyAsLong(y);
-            checks.due(state + ": " + call.name() + " left what follows as it was",
+            due(state + ": " + call.name() + " left what follows as it was",
                 goOn(y).equals(goingOn), true);
         }
     }

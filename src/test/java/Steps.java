@@ -65,6 +65,15 @@ final class Steps {
         }
     }
 
+    /** Servers 0 and 1 of three have dropped the tag 0 for one that is nowhere sealed. */
+    static Run withTagZeroDropped() {
+        Run x = new Run(3, 1, 0);
+        writeUpToStore(x, 4, 99, 0, 1);
+        x.deliver(4, 0, 0);
+        x.deliver(4, 1, 0);
+        return x;
+    }
+
     /** A write that every server has stored and sealed, though only the quorum's replies counted. */
     static void writeEverywhere(Run x, int c, long block, Sizes sizes) {
         write(x, c, block, sizes.firstQuorum());

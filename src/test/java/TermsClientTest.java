@@ -1,7 +1,5 @@
 /** "Terms": A TAG, A SERVER, and what A CLIENT's requests and replies are, sentence by sentence. */
-public final class TermsClientTest {
-    private final Checks checks = new Checks();
-
+public final class TermsClientTest extends Sentences {
     public static void main(String[] args) {
         TermsClientTest test = new TermsClientTest();
         test.overtaking();
@@ -23,20 +21,8 @@ public final class TermsClientTest {
         test.checks.end();
     }
 
-    private void due(String call, long got, long want) {
-        checks.due(call, got, want);
-    }
-
-    private void due(String call, boolean got, boolean want) {
-        checks.due(call, got, want);
-    }
-
-    private static Run three(int d) {
-        return new Run(3, 1, d);
-    }
-
     private void overtaking() {
-        checks.sentence("Letters may be slow and may overtake one another");
+        sentence("Letters may be slow and may overtake one another");
         Run x = three(3);
         Steps.write(x, 0, 5, 0, 1);
         for (int phase = 3; phase >= 1; phase--) {
@@ -57,7 +43,7 @@ public final class TermsClientTest {
     }
 
     private void tags() {
-        checks.sentence("A TAG is an int: 8 * number + client");
+        sentence("A TAG is an int: 8 * number + client");
         for (int c = 0; c < 5; c++) {
             Run x = three(0);
             x.crash(2);
@@ -69,7 +55,7 @@ public final class TermsClientTest {
     }
 
     private void tagZero() {
-        checks.sentence("Tag 0 is that of the block 0, which is in the register at first");
+        sentence("Tag 0 is that of the block 0, which is in the register at first");
         for (Sizes sizes : Sizes.ALL) {
             Run x = sizes.run(0);
             due("read" + sizes.at(), Steps.read(x, 3, sizes.firstQuorum()), 3);
@@ -79,7 +65,7 @@ public final class TermsClientTest {
     }
 
     private void higherTag() {
-        checks.sentence("Of two tags the greater int is the higher one");
+        sentence("Of two tags the greater int is the higher one");
         Run x = three(1);
         Steps.write(x, 4, 1, 0, 1);
         Steps.write(x, 0, 2, 0, 1);
@@ -118,7 +104,7 @@ public final class TermsClientTest {
     }
 
     private void newServer() {
-        checks.sentence("At first it holds its fragment of the block 0 under the tag 0,"
+        sentence("At first it holds its fragment of the block 0 under the tag 0,"
             + " and its seal is 0");
         for (Sizes sizes : Sizes.ALL) {
             Run x = sizes.run(3);
@@ -137,7 +123,7 @@ public final class TermsClientTest {
     }
 
     private void oneOperation() {
-        checks.sentence("A CLIENT does one operation at a time");
+        sentence("A CLIENT does one operation at a time");
         for (int phase = 1; phase <= 5; phase++) {
             Run x = three(0);
             Steps.upTo(phase, x, 2, 5, 0, 1);
@@ -150,7 +136,7 @@ public final class TermsClientTest {
     }
 
     private void oneRequestEach() {
-        checks.sentence("When a phase begins, the client sends one REQUEST to every server that has"
+        sentence("When a phase begins, the client sends one REQUEST to every server that has"
             + " not crashed");
         for (int crashed = -1; crashed < 5; crashed++) {
             for (int phase = 1; phase <= 5; phase++) {
@@ -172,7 +158,7 @@ public final class TermsClientTest {
     }
 
     private void requestWaits() {
-        checks.sentence("The request waits until it is delivered");
+        sentence("The request waits until it is delivered");
         Run x = three(3);
         Steps.write(x, 0, 5, 0, 1);
         Steps.write(x, 1, 6, 0, 1);
@@ -188,7 +174,7 @@ public final class TermsClientTest {
     }
 
     private void atOnce() {
-        checks.sentence("then the server at once does what the phase says, and sends a REPLY");
+        sentence("then the server at once does what the phase says, and sends a REPLY");
         Run x = three(0);
         Steps.upTo(2, x, 0, 0x77, 0, 1);
         due("replies", x.replies(0, 0), 0);
@@ -214,7 +200,7 @@ public final class TermsClientTest {
     }
 
     private void replyWaits() {
-        checks.sentence("a REPLY, which waits until the client hears it");
+        sentence("a REPLY, which waits until the client hears it");
         Run x = three(0);
         x.read(0);
         x.deliver(0, 2, 0);
@@ -234,7 +220,7 @@ public final class TermsClientTest {
     }
 
     private void samePhase() {
-        checks.sentence("A reply counts when the client hears it in the same phase in which the"
+        sentence("A reply counts when the client hears it in the same phase in which the"
             + " request was sent");
         for (int phase = 1; phase <= 5; phase++) {
             Run x = three(0);
@@ -248,7 +234,7 @@ public final class TermsClientTest {
 
     /** Requests of every earlier phase, delivered or only heard when a later one is on. */
     private void laterPhase() {
-        checks.sentence("any other reply is thrown away when it is heard");
+        sentence("any other reply is thrown away when it is heard");
         for (int phase = 1; phase <= 5; phase++) {
             int first = phase <= 3 ? 1 : 4;
             for (int before = first; before < phase; before++) {
@@ -273,7 +259,7 @@ public final class TermsClientTest {
 
     /** A phase of one operation and a phase of the next one, the same number among them. */
     private void otherOperation() {
-        checks.sentence("(each beginning of a phase is another one)");
+        sentence("(each beginning of a phase is another one)");
         for (int old = 1; old <= 5; old++) {
             for (int phase = 1; phase <= 5; phase++) {
                 Run x = three(0);
@@ -295,7 +281,7 @@ public final class TermsClientTest {
 
     /** The same read looks anew, so that the phases 4 and 5 begin twice in one operation. */
     private void otherBeginning() {
-        checks.sentence("(each beginning of a phase is another one)");
+        sentence("(each beginning of a phase is another one)");
         for (int old = 4; old <= 5; old++) {
             for (int phase = 4; phase <= 5; phase++) {
                 Run x = three(0);
@@ -319,7 +305,7 @@ public final class TermsClientTest {
     }
 
     private void idle() {
-        checks.sentence("any other reply is thrown away when it is heard");
+        sentence("any other reply is thrown away when it is heard");
         Run x = three(0);
         Steps.write(x, 0, 5, 0, 1);
         Steps.read(x, 0, 0, 1);
@@ -333,7 +319,7 @@ public final class TermsClientTest {
     }
 
     private void thrownAway() {
-        checks.sentence("any other reply is thrown away when it is heard");
+        sentence("any other reply is thrown away when it is heard");
         Run x = three(0);
         Run y = three(0);
         for (Run run : new Run[] {x, y}) {

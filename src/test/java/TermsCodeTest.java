@@ -1,8 +1,5 @@
 /** "Terms": SIZES, BYTES, A BLOCK and THE FRAGMENT, a test for each sentence. */
-public final class TermsCodeTest {
-    private static final int LOW = Integer.MIN_VALUE;
-    private static final int HIGH = Integer.MAX_VALUE;
-
+public final class TermsCodeTest extends Sentences {
     // Reckoned by hand: the powers 0 to 6 of the bytes 1 to 7.
     private static final int[][] POWERS = {
         {1, 1, 1, 1, 1, 1, 1},
@@ -13,8 +10,6 @@ public final class TermsCodeTest {
         {1, 6, 20, 120, 13, 46, 228},
         {1, 7, 21, 107, 12, 36, 252},
     };
-
-    private final Checks checks = new Checks();
 
     public static void main(String[] args) {
         TermsCodeTest test = new TermsCodeTest();
@@ -34,16 +29,8 @@ public final class TermsCodeTest {
         test.checks.end();
     }
 
-    private void due(String call, long got, long want) {
-        checks.due(call, got, want);
-    }
-
-    private void due(String call, boolean got, boolean want) {
-        checks.due(call, got, want);
-    }
-
     private void servers() {
-        checks.sentence("There are N servers 0 .. N - 1");
+        sentence("There are N servers 0 .. N - 1");
         for (int n = 3; n <= 7; n++) {
             for (int s : new int[] {-1, n, n + 1, LOW, HIGH}) {
                 noServer(n, s);
@@ -96,7 +83,7 @@ public final class TermsCodeTest {
     }
 
     private void clients() {
-        checks.sentence("and five clients 0 .. 4");
+        sentence("and five clients 0 .. 4");
         for (int c : new int[] {-1, 5, 6, LOW, HIGH}) {
             Run x = withLettersOfClient1(3);
             due("write of client " + c, x.write(c, 1), -1);
@@ -125,7 +112,7 @@ public final class TermsCodeTest {
     }
 
     private void quorum() {
-        checks.sentence("The QUORUM is N - F, where F is (N - K) / 2 rounded down");
+        sentence("The QUORUM is N - F, where F is (N - K) / 2 rounded down");
         for (Sizes sizes : Sizes.ALL) {
             Run x = sizes.run(0);
             due("quorum" + sizes.at(), x.quorum(), sizes.n() - sizes.f());
@@ -136,7 +123,7 @@ public final class TermsCodeTest {
     }
 
     private void fragmentLength() {
-        checks.sentence("A FRAGMENT has L bytes, L being 8 / K rounded up");
+        sentence("A FRAGMENT has L bytes, L being 8 / K rounded up");
         for (Sizes sizes : Sizes.ALL) {
             Run x = sizes.run(0);
             Steps.writeUpToStore(x, 0, -1, sizes.firstQuorum());
@@ -170,7 +157,7 @@ public final class TermsCodeTest {
     }
 
     private void bytes() {
-        checks.sentence("BYTES are the numbers 0 .. 255");
+        sentence("BYTES are the numbers 0 .. 255");
         for (int low = 0; low < 256; low += 8) {
             Run x = stored(1, block(low, low + 1, low + 2, low + 3, low + 4, low + 5, low + 6, low + 7));
             for (int r = 0; r < 8; r++) {
@@ -180,7 +167,7 @@ public final class TermsCodeTest {
     }
 
     private void sum() {
-        checks.sentence("The SUM of two bytes is their exclusive or");
+        sentence("The SUM of two bytes is their exclusive or");
         int[][] sums = {{0, 0, 0}, {1, 1, 0}, {1, 2, 3}, {255, 1, 254}, {255, 255, 0}, {128, 128, 0},
             {200, 100, 172}, {127, 128, 255}, {3, 6, 5}, {0, 255, 255}};
         for (int[] row : sums) {
@@ -190,7 +177,7 @@ public final class TermsCodeTest {
     }
 
     private void product() {
-        checks.sentence("The PRODUCT of two bytes is that of polynomials with coefficients modulo 2"
+        sentence("The PRODUCT of two bytes is that of polynomials with coefficients modulo 2"
             + " (bit i of a byte is the coefficient of x^i),"
             + " reduced modulo x^8 + x^4 + x^3 + x^2 + 1");
         int[][] products = {{128, 2, 29}, {127, 2, 254}, {255, 2, 227}, {64, 4, 29}, {63, 4, 252},
@@ -210,7 +197,7 @@ public final class TermsCodeTest {
     }
 
     private void byteOrder() {
-        checks.sentence("Its byte i, for i = 0 .. 7, is what its bits 8i .. 8i + 7 are"
+        sentence("Its byte i, for i = 0 .. 7, is what its bits 8i .. 8i + 7 are"
             + " (byte 0 is the lowest)");
         for (int bit = 0; bit < 64; bit++) {
             Run x = stored(1, 1L << bit);
@@ -222,7 +209,7 @@ public final class TermsCodeTest {
     }
 
     private void bytesFromEightOn() {
-        checks.sentence("its bytes from 8 on are 0");
+        sentence("its bytes from 8 on are 0");
         int[][] lasts = {{3, 2}, {5, 1}, {6, 1}, {7, 1}};
         for (int[] row : lasts) {
             int k = row[0];
@@ -262,7 +249,7 @@ public final class TermsCodeTest {
     }
 
     private void powerZero() {
-        checks.sentence("(the power 0 is 1)");
+        sentence("(the power 0 is 1)");
         for (int k = 1; k <= 7; k++) {
             long block = 0;
             for (int i = 0; i < 8; i += k) {
@@ -278,7 +265,7 @@ public final class TermsCodeTest {
     }
 
     private void otherPowers() {
-        checks.sentence("the i-th power of the byte s + 1");
+        sentence("the i-th power of the byte s + 1");
         for (int i = 0; i < 7; i++) {
             Run x = stored(7, 1L << 8 * i);
             for (int s = 0; s < 7; s++) {
@@ -288,7 +275,7 @@ public final class TermsCodeTest {
     }
 
     private void everyFragment() {
-        checks.sentence("byte r is the sum, over i = 0 .. K - 1, of the product of the block's byte"
+        sentence("byte r is the sum, over i = 0 .. K - 1, of the product of the block's byte"
             + " r * K + i and the i-th power of the byte s + 1");
         long[] blocks = {0, 1, -1, Long.MIN_VALUE, Long.MAX_VALUE, 0x0102030405060708L,
             0xF1E2D3C4B5A69788L};
@@ -306,7 +293,7 @@ public final class TermsCodeTest {
     }
 
     private void anyFragments() {
-        checks.sentence("So any K fragments of one block, of different servers, belong to no other"
+        sentence("So any K fragments of one block, of different servers, belong to no other"
             + " block");
         for (Sizes sizes : Sizes.ALL) {
             for (int set = 0; set < 1 << sizes.n(); set++) {

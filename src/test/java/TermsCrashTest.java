@@ -1,7 +1,5 @@
 /** "Terms": CRASHES and CROWDED, a test for each sentence. */
-public final class TermsCrashTest {
-    private final Checks checks = new Checks();
-
+public final class TermsCrashTest extends Sentences {
     public static void main(String[] args) {
         TermsCrashTest test = new TermsCrashTest();
         test.requestsAreLost();
@@ -24,20 +22,8 @@ public final class TermsCrashTest {
         test.checks.end();
     }
 
-    private void due(String call, long got, long want) {
-        checks.due(call, got, want);
-    }
-
-    private void due(String call, boolean got, boolean want) {
-        checks.due(call, got, want);
-    }
-
-    private static Run three(int d) {
-        return new Run(3, 1, d);
-    }
-
     private void requestsAreLost() {
-        checks.sentence("When a server crashes, the requests that wait at it are lost");
+        sentence("When a server crashes, the requests that wait at it are lost");
         for (int phase = 1; phase <= 5; phase++) {
             Run x = three(0);
             for (int c = 0; c < 5; c++) {
@@ -57,7 +43,7 @@ public final class TermsCrashTest {
     }
 
     private void noMoreAreSent() {
-        checks.sentence("and no more are sent to it");
+        sentence("and no more are sent to it");
         for (int phase = 1; phase <= 5; phase++) {
             Run x = three(0);
             x.crash(2);
@@ -72,7 +58,7 @@ public final class TermsCrashTest {
             due("the phase ends without it", end, phase == 3 || phase == 5 ? 3 : 2);
             due("requests after phase " + phase, y.requests(0, 2), 0);
         }
-        Run z = withTagZeroDropped();
+        Run z = Steps.withTagZeroDropped();
         Steps.upTo(5, z, 0, 0, 0, 1);
         Steps.rounds(z, 0, 0, 1);
         z.crash(2);
@@ -81,17 +67,8 @@ public final class TermsCrashTest {
         due("requests elsewhere", z.requests(0, 0), 1);
     }
 
-    /** Servers 0 and 1 have dropped the tag 0 for one that is nowhere sealed. */
-    private static Run withTagZeroDropped() {
-        Run x = three(0);
-        Steps.upTo(2, x, 4, 99, 0, 1);
-        x.deliver(4, 0, 0);
-        x.deliver(4, 1, 0);
-        return x;
-    }
-
     private void repliesAreHeard() {
-        checks.sentence("its replies that wait can still be heard");
+        sentence("its replies that wait can still be heard");
         for (int phase = 1; phase <= 5; phase++) {
             Run x = three(0);
             Steps.upTo(phase, x, 0, 5, 0, 1);
@@ -117,7 +94,7 @@ public final class TermsCrashTest {
     }
 
     private void crashedServersFragment() {
-        checks.sentence("its replies that wait can still be heard");
+        sentence("its replies that wait can still be heard");
         Run x = new Run(5, 3, 0);
         long block = 0x7766554433221100L;
         Steps.write(x, 0, block, 0, 1, 2, 3);
@@ -130,7 +107,7 @@ public final class TermsCrashTest {
     }
 
     private void serverStays() {
-        checks.sentence("what it holds and its seal stay as they are");
+        sentence("what it holds and its seal stay as they are");
         Run x = new Run(3, 1, 2);
         Steps.write(x, 3, 0x0A0B0C0D0E0F1011L, 0, 1);
         Steps.upTo(3, x, 4, 7, 0, 1);
@@ -151,7 +128,7 @@ public final class TermsCrashTest {
     }
 
     private void neverFinished() {
-        checks.sentence("When a client crashes, its operation (if there is one) is never finished");
+        sentence("When a client crashes, its operation (if there is one) is never finished");
         for (int phase = 1; phase <= 5; phase++) {
             Run x = three(0);
             Steps.upTo(phase, x, 0, 5, 0, 1);
@@ -177,7 +154,7 @@ public final class TermsCrashTest {
     }
 
     private void beginsNoOther() {
-        checks.sentence("and it begins no other");
+        sentence("and it begins no other");
         for (int phase = 0; phase <= 5; phase++) {
             Run x = three(0);
             if (phase > 0) {
@@ -191,7 +168,7 @@ public final class TermsCrashTest {
             due("nothing is sent", x.requests(4, 0), waiting);
             due("others do", x.write(3, 1), 0);
         }
-        Run y = withTagZeroDropped();
+        Run y = Steps.withTagZeroDropped();
         Steps.upTo(5, y, 0, 0, 0, 1);
         Steps.rounds(y, 0, 0, 1);
         y.stop(0);
@@ -200,7 +177,7 @@ public final class TermsCrashTest {
     }
 
     private void requestsAreDelivered() {
-        checks.sentence("its requests that wait can still be delivered");
+        sentence("its requests that wait can still be delivered");
         for (int phase = 1; phase <= 5; phase++) {
             Run x = three(0);
             Steps.write(x, 1, 6, 0, 1);
@@ -216,7 +193,7 @@ public final class TermsCrashTest {
     }
 
     private void neverCounts() {
-        checks.sentence("a reply that it hears never counts");
+        sentence("a reply that it hears never counts");
         for (int phase = 1; phase <= 5; phase++) {
             Run x = three(0);
             Steps.upTo(phase, x, 0, 5, 0, 1);
@@ -245,7 +222,7 @@ public final class TermsCrashTest {
     }
 
     private void fourLetters() {
-        checks.sentence("more than 4 letters wait between the two");
+        sentence("more than 4 letters wait between the two");
         for (int letters = 0; letters <= 5; letters++) {
             for (boolean writing : new boolean[] {true, false}) {
                 Run x = withFiveLetters(3, 0, 1);
@@ -272,7 +249,7 @@ public final class TermsCrashTest {
     }
 
     private void countedTogether() {
-        checks.sentence("requests of the client at that server and replies of that server for the"
+        sentence("requests of the client at that server and replies of that server for the"
             + " client, counted together");
         for (int letters = 4; letters <= 5; letters++) {
             for (int replies = 0; replies <= letters; replies++) {
@@ -294,7 +271,7 @@ public final class TermsCrashTest {
     }
 
     private void everyServer() {
-        checks.sentence("A client is CROWDED when there is a server that has not crashed such that");
+        sentence("A client is CROWDED when there is a server that has not crashed such that");
         for (int n = 3; n <= 7; n++) {
             for (int slow = 0; slow < n; slow++) {
                 int q = n - (n - 1) / 2;
@@ -317,7 +294,7 @@ public final class TermsCrashTest {
     }
 
     private void eachServerAlone() {
-        checks.sentence("more than 4 letters wait between the two");
+        sentence("more than 4 letters wait between the two");
         for (int replies = 0; replies <= 4; replies++) {
             Run x = withFiveLetters(5, 0, 1, 2);
             loseOne(x, 3);
@@ -332,7 +309,7 @@ public final class TermsCrashTest {
     }
 
     private void eachClientAlone() {
-        checks.sentence("wait between the two");
+        sentence("wait between the two");
         Run x = withFiveLetters(3, 0, 1);
         for (int c = 0; c < 5; c++) {
             due("write of client " + c, x.write(c, 8), c == 1 ? -4 : 0);
@@ -347,7 +324,7 @@ public final class TermsCrashTest {
     }
 
     private void crashedServerCrowdsNobody() {
-        checks.sentence("a server that has not crashed");
+        sentence("a server that has not crashed");
         for (int replies = 0; replies <= 5; replies++) {
             for (boolean writing : new boolean[] {true, false}) {
                 Run x = withFiveLetters(3, 0, 1);
@@ -369,10 +346,10 @@ public final class TermsCrashTest {
 
     /** A read that looks again and again; the letters lie at server 2, then the rest are taken. */
     private void fourLettersAndAgain() {
-        checks.sentence("more than 4 letters wait between the two");
+        sentence("more than 4 letters wait between the two");
         for (int letters = 2; letters <= 6; letters++) {
             for (int replies = 0; replies <= letters; replies++) {
-                Run x = withTagZeroDropped();
+                Run x = Steps.withTagZeroDropped();
                 Steps.upTo(5, x, 0, 0, 0, 1);
                 Steps.rounds(x, 0, 0, 1);
                 for (int i = 0; i < 2; i++) {
@@ -397,7 +374,7 @@ public final class TermsCrashTest {
     }
 
     private void everyServerAndAgain() {
-        checks.sentence("A client is CROWDED when there is a server that has not crashed such that");
+        sentence("A client is CROWDED when there is a server that has not crashed such that");
         for (int slow = 0; slow < 3; slow++) {
             int one = (slow + 1) % 3;
             int two = (slow + 2) % 3;

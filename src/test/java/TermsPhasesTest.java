@@ -4,9 +4,7 @@ import java.util.List;
 import java.util.TreeSet;
 
 /** "Terms": the five phases, a test for each sentence and each "as soon as" among them. */
-public final class TermsPhasesTest {
-    private final Checks checks = new Checks();
-
+public final class TermsPhasesTest extends Sentences {
     public static void main(String[] args) {
         TermsPhasesTest test = new TermsPhasesTest();
         test.firstPhases();
@@ -38,18 +36,6 @@ public final class TermsPhasesTest {
         test.checks.end();
     }
 
-    private void due(String call, long got, long want) {
-        checks.due(call, got, want);
-    }
-
-    private void due(String call, boolean got, boolean want) {
-        checks.due(call, got, want);
-    }
-
-    private static Run three(int d) {
-        return new Run(3, 1, d);
-    }
-
     /** In the phase just Q replies count, those before the last without an end. */
     private void endsAtQuorum(int phase, int end) {
         for (Sizes sizes : Sizes.ALL) {
@@ -70,7 +56,7 @@ public final class TermsPhasesTest {
     }
 
     private void firstPhases() {
-        checks.sentence("1 ASK, the first one of a write ... 4 LOOK, the first one of a read");
+        sentence("1 ASK, the first one of a write ... 4 LOOK, the first one of a read");
         for (int c = 0; c < 5; c++) {
             Run x = three(0);
             x.write(c, 5);
@@ -84,7 +70,7 @@ public final class TermsPhasesTest {
     }
 
     private void askReply() {
-        checks.sentence("1 ASK ... Reply: the server's seal");
+        sentence("1 ASK ... Reply: the server's seal");
         for (int writer = 0; writer < 5; writer++) {
             Run x = three(0);
             Steps.write(x, writer, 5, 0, 1);
@@ -101,12 +87,12 @@ public final class TermsPhasesTest {
     }
 
     private void askEnds() {
-        checks.sentence("1 ASK ... As soon as Q replies count ... phase 2 begins");
+        sentence("1 ASK ... As soon as Q replies count ... phase 2 begins");
         endsAtQuorum(1, 2);
     }
 
     private void askTag() {
-        checks.sentence("the client's TAG becomes 8 * (m + 1) + client");
+        sentence("the client's TAG becomes 8 * (m + 1) + client");
         for (Sizes sizes : Sizes.ALL) {
             for (int c = 0; c < 5; c++) {
                 Run x = sizes.run(0);
@@ -122,7 +108,7 @@ public final class TermsPhasesTest {
     }
 
     private void askRoundsDown() {
-        checks.sentence("where m is t / 8 rounded down");
+        sentence("where m is t / 8 rounded down");
         for (int writer = 0; writer < 5; writer++) {
             for (int c = 0; c < 5; c++) {
                 Run x = three(0);
@@ -143,7 +129,7 @@ public final class TermsPhasesTest {
     }
 
     private void askHighest() {
-        checks.sentence("1 ASK ... t the highest seal in these Q replies");
+        sentence("1 ASK ... t the highest seal in these Q replies");
         for (int sealed = 0; sealed < 3; sealed++) {
             Run x = withOneSeal(sealed);
             due("seal", x.seal(sealed), 9);
@@ -163,7 +149,7 @@ public final class TermsPhasesTest {
     }
 
     private void askTheseReplies() {
-        checks.sentence("1 ASK ... in these Q replies");
+        sentence("1 ASK ... in these Q replies");
         Run x = withOneSeal(4);
         Steps.upTo(2, x, 0, 6, 0, 1, 2);
         due("a seal elsewhere", x.tag(0), 8);
@@ -185,7 +171,7 @@ public final class TermsPhasesTest {
     }
 
     private void storeBears() {
-        checks.sentence("2 STORE. The request bears the client's tag and the server's fragment of the"
+        sentence("2 STORE. The request bears the client's tag and the server's fragment of the"
             + " block that is written");
         for (Sizes sizes : Sizes.ALL) {
             Run x = sizes.run(0);
@@ -227,7 +213,7 @@ public final class TermsPhasesTest {
     }
 
     private void storeHoldsToo() {
-        checks.sentence("2 STORE ... The server then holds that too");
+        sentence("2 STORE ... The server then holds that too");
         Run x = withFiveTags(1);
         dueHeld("before", x, 0);
         x.deliver(2, 0, 0);
@@ -237,7 +223,7 @@ public final class TermsPhasesTest {
     }
 
     private void storeUpToD() {
-        checks.sentence("if it holds fragments of more than D + 1 tags then");
+        sentence("if it holds fragments of more than D + 1 tags then");
         int[][] held = {{8, 0}, {9, 8, 0}, {10, 9, 8, 0}};
         for (int d = 1; d <= 3; d++) {
             Run x = withFiveTags(d);
@@ -249,7 +235,7 @@ public final class TermsPhasesTest {
     }
 
     private void storeDropsLowest() {
-        checks.sentence("it drops the one with the lowest tag");
+        sentence("it drops the one with the lowest tag");
         int[][] held = {{12}, {12, 11}, {12, 11, 10}, {12, 11, 10, 9}};
         for (int d = 0; d <= 3; d++) {
             Run x = withFiveTags(d);
@@ -266,7 +252,7 @@ public final class TermsPhasesTest {
     }
 
     private void storeDropsTheNew() {
-        checks.sentence("(which may be the new one)");
+        sentence("(which may be the new one)");
         for (int d = 0; d <= 3; d++) {
             Run x = withFiveTags(d);
             for (int c = 4; c > 3 - d; c--) {
@@ -287,7 +273,7 @@ public final class TermsPhasesTest {
     }
 
     private void storeEveryOrder() {
-        checks.sentence("if it holds fragments of more than D + 1 tags then, it drops the one with the"
+        sentence("if it holds fragments of more than D + 1 tags then, it drops the one with the"
             + " lowest tag (which may be the new one)");
         List<int[]> orders = new ArrayList<>();
         addOrders(orders, new int[] {0, 1, 2, 3, 4}, 0);
@@ -326,12 +312,12 @@ public final class TermsPhasesTest {
     }
 
     private void storeEnds() {
-        checks.sentence("2 STORE ... As soon as Q replies count, phase 3 begins");
+        sentence("2 STORE ... As soon as Q replies count, phase 3 begins");
         endsAtQuorum(2, 2);
     }
 
     private void sealRises() {
-        checks.sentence("3 SEAL. The request bears the client's tag; if it is higher than the server's"
+        sentence("3 SEAL. The request bears the client's tag; if it is higher than the server's"
             + " seal, it becomes the seal");
         Run x = three(0);
         for (int c = 0; c < 5; c++) {
@@ -361,12 +347,12 @@ public final class TermsPhasesTest {
     }
 
     private void sealEnds() {
-        checks.sentence("3 SEAL ... As soon as Q replies count, the write is finished");
+        sentence("3 SEAL ... As soon as Q replies count, the write is finished");
         endsAtQuorum(3, 3);
     }
 
     private void lookReply() {
-        checks.sentence("4 LOOK ... Reply: the server's seal");
+        sentence("4 LOOK ... Reply: the server's seal");
         for (int writer = 0; writer < 5; writer++) {
             Run x = three(0);
             Steps.write(x, writer, 5, 0, 1);
@@ -380,12 +366,12 @@ public final class TermsPhasesTest {
     }
 
     private void lookEnds() {
-        checks.sentence("4 LOOK ... As soon as Q replies count ... phase 5 begins");
+        sentence("4 LOOK ... As soon as Q replies count ... phase 5 begins");
         endsAtQuorum(4, 2);
     }
 
     private void lookHighest() {
-        checks.sentence("the client's TAG becomes the highest seal in these Q replies");
+        sentence("the client's TAG becomes the highest seal in these Q replies");
         for (int sealed = 0; sealed < 3; sealed++) {
             Run x = withOneSeal(sealed);
             x.read(0);
@@ -422,7 +408,7 @@ public final class TermsPhasesTest {
     }
 
     private void fetchSeals() {
-        checks.sentence("5 FETCH. The request bears the client's tag; if it is higher than the server's"
+        sentence("5 FETCH. The request bears the client's tag; if it is higher than the server's"
             + " seal, it becomes the seal");
         Run x = three(3);
         Steps.write(x, 1, 5, 0, 1);
@@ -442,7 +428,7 @@ public final class TermsPhasesTest {
     }
 
     private void fetchBears() {
-        checks.sentence("The reply bears the fragment that the server holds under that tag, if it"
+        sentence("The reply bears the fragment that the server holds under that tag, if it"
             + " holds one");
         for (int d = 0; d <= 1; d++) {
             Run x = three(d);
@@ -463,7 +449,7 @@ public final class TermsPhasesTest {
     }
 
     private void fetchBearsAsDelivered() {
-        checks.sentence("The reply bears the fragment that the server holds under that tag, if it"
+        sentence("The reply bears the fragment that the server holds under that tag, if it"
             + " holds one");
         Run x = three(0);
         Steps.write(x, 1, 5, 0, 1);
@@ -491,7 +477,7 @@ public final class TermsPhasesTest {
     }
 
     private void fetchEnds() {
-        checks.sentence("As soon as at least Q replies count and at least K of them bear a fragment,"
+        sentence("As soon as at least Q replies count and at least K of them bear a fragment,"
             + " the read is finished");
         endsAtQuorum(5, 3);
         for (Sizes sizes : Sizes.ALL) {
@@ -527,7 +513,7 @@ public final class TermsPhasesTest {
     }
 
     private void fetchResult() {
-        checks.sentence("its RESULT is the block that was written under that tag");
+        sentence("its RESULT is the block that was written under that tag");
         Run x = new Run(5, 2, 3);
         Steps.write(x, 0, 111, 0, 1, 2, 3);
         Steps.write(x, 1, 222, 0, 1, 2, 3);
@@ -542,7 +528,7 @@ public final class TermsPhasesTest {
     }
 
     private void fetchTagZero() {
-        checks.sentence("(the block 0 for the tag 0)");
+        sentence("(the block 0 for the tag 0)");
         for (Sizes sizes : Sizes.ALL) {
             Run x = sizes.run(1);
             Steps.writeUpToStore(x, 0, -1, sizes.firstQuorum());
@@ -556,7 +542,7 @@ public final class TermsPhasesTest {
     }
 
     private void fetchGoesOn() {
-        checks.sentence("Until then the phase goes on, with however many replies");
+        sentence("Until then the phase goes on, with however many replies");
         for (Sizes sizes : Sizes.ALL) {
             Run x = sizes.run(0);
             Steps.writeUpToStore(x, 0, 7, sizes.firstQuorum());
