@@ -1,10 +1,11 @@
 /** Compares answers with those that are due, and ends a test with exit code 1 if one was wrong. */
 final class Checks {
-    private static final int MOST_PRINTED = 40;
+    private static final int MOST_PRINTED_A_SENTENCE = 10;
 
     private String sentence = "";
     private int madeBefore = -1;
     private int wrong;
+    private int wrongBefore;
     private int made;
 
     /** The words of the document that the answers from here on are looked at for. */
@@ -12,6 +13,7 @@ final class Checks {
         endSentence();
         sentence = words;
         madeBefore = made;
+        wrongBefore = wrong;
     }
 
     private void endSentence() {
@@ -24,7 +26,7 @@ final class Checks {
         made++;
         if (got != want) {
             wrong++;
-            if (wrong <= MOST_PRINTED) {
+            if (wrong - wrongBefore <= MOST_PRINTED_A_SENTENCE) {
                 System.out.println((sentence.isEmpty() ? "" : "[" + sentence + "] ")
                     + call + " answered " + got + ", due is " + want);
             }
