@@ -31,21 +31,20 @@ public final class ReadmeTest {
     private void exampleAnswers() {
         // example from here
         SealedFragmentRegister x = new SealedFragmentRegister(4, 2, 1);
-        x.write(0, 42);                     // client 0 asks every server: phase 1
-        while (x.phase(0) != 0) {           // a write's phases 1, 2 and 3, with the servers 0 to 2
+        x.write(0, 42);                     // client 0 begins to ask every server
+        for (int phase = 1; phase <= 3; phase++) {
             for (int s = 0; s < x.quorum(); s++) {
                 x.deliver(0, s, 0);         // server s does its part and replies
                 x.hear(0, s, 0);            // 1: phase goes on, 2: next phase begins, 3: finished
             }
         }
         x.crash(0);                         // of four servers with K = 2 one may crash
-        x.read(1);                          // client 1 looks for the newest tag: phase 4
-        while (x.phase(1) != 0) {           // a read's phases 4 and 5, with the servers 1 to 3
+        x.read(1);                          // client 1 begins to look for the newest tag
+        for (int phase = 4; phase <= 5; phase++) {
             for (int s = 1; s <= x.quorum(); s++) {
                 x.deliver(1, s, 0);
                 x.hear(1, s, 0);
             }
-            x.again(1);                     // refused, unless a quorum brought too few fragments
         }
         long block = x.result(1);           // 42
         // example to here
